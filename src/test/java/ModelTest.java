@@ -6,7 +6,7 @@ import java.util.function.Supplier;
 /** Long runs of chosen calls on the program and on the model; the seeds are fixed, so each run is the same. */
 final class ModelTest {
     private static final int RUNS = 600;
-    private static final int CALLS = 512;
+    private static final int CALLS = 400;
     private static final int[] EDGES = {
         Integer.MIN_VALUE, Integer.MIN_VALUE + 1, Integer.MIN_VALUE + 2, -1073741824, -1, 0, 1, 1073741823,
         Integer.MAX_VALUE - 2, Integer.MAX_VALUE - 1, Integer.MAX_VALUE};
@@ -64,14 +64,23 @@ final class ModelTest {
 
     private int line() {
         if (seldom()) {
-            return random.nextBoolean() ? -1 : 3;
+            return outside(0, 2);
         }
         return busy < 3 && random.nextInt(3) != 0 ? busy : random.nextInt(3);
     }
 
+    private int other(int line) {
+        return seldom() ? 3 : Math.floorMod(line + 1 + random.nextInt(2), 3);
+    }
+
+    private int outside(int least, int most) {
+        int[] values = {least - 1, most + 1, Integer.MIN_VALUE, Integer.MAX_VALUE};
+        return values[random.nextInt(values.length)];
+    }
+
     private int upTo(int least, int most) {
         if (seldom()) {
-            return random.nextBoolean() ? least - 1 : most + 1;
+            return outside(least, most);
         }
         return least + random.nextInt(most - least + 1);
     }
@@ -132,8 +141,8 @@ final class ModelTest {
         int q = behind(p);
         int c = upTo(0, 7);
         int c2 = upTo(0, 7);
-        int o = random.nextInt(10) == 0 ? a : upTo(0, 2);
-        int kind = random.nextInt(38);
+        int o = random.nextInt(10) == 0 ? a : other(a);
+        int kind = random.nextInt(40);
         if (kind < 7) {
             int shade = upTo(1, 7);
             compare(told("paint", a, p, q, shade), model.paint(a, p, q, shade, false), () -> x.paint(a, p, q, shade));
@@ -172,9 +181,24 @@ final class ModelTest {
         } else if (kind == 35) {
             compare(told("frame", a, p, q), model.frame(a, p, q), () -> x.frame(a, p, q));
         } else if (kind == 36) {
+            takeBackMany();
+        } else if (kind == 37) {
             compare(told("blot", a, p, c), model.blot(a, c), () -> x.blot(a, p, c));
         } else {
             compare("knock", model.knock(), x::knock);
+        }
+    }
+
+    /** Several UNDOS and then AGAINS, or nothing would be long in TAKEN. */
+    private void takeBackMany() {
+        int a = line();
+        int undone = random.nextInt(actsOf(a) + 1);
+        for (int i = 0; i < undone; i++) {
+            compare(told("undo", a), model.undo(a), () -> x.undo(a));
+        }
+        int done = random.nextInt(undone + 2);
+        for (int i = 0; i < done; i++) {
+            compare(told("again", a), model.again(a), () -> x.again(a));
         }
     }
 
