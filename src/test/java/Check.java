@@ -2,12 +2,18 @@
 final class Check {
     private int asked = 0;
     private int wrong = 0;
+    private String sentence = "";
+
+    /** The sentence of the document that the next answers are about. */
+    void about(String words) {
+        sentence = words + ": ";
+    }
 
     void due(String call, Object got, Object want) {
         asked++;
         if (!want.equals(got)) {
             wrong++;
-            System.out.println(call + " answered " + got + ", due is " + want);
+            System.out.println(sentence + call + " answered " + got + ", due is " + want);
         }
     }
 
@@ -42,7 +48,7 @@ final class Check {
         refused(x, call, IllegalStateException.class, run);
     }
 
-    private static String nameOfThrown(Runnable run) {
+    static String nameOfThrown(Runnable run) {
         try {
             run.run();
             return "nothing";

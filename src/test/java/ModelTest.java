@@ -34,7 +34,8 @@ final class ModelTest {
     }
 
     private void run() {
-        for (int i = 0; i < CALLS && !wrong; i++) {
+        // takeBackMany adds up to 33 calls to a run; an object is used for at most 512.
+        for (int i = 0; i < CALLS && !wrong && calls.size() < 470; i++) {
             if (random.nextInt(100) < 45) {
                 change();
             } else {
