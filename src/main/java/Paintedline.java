@@ -1066,7 +1066,8 @@ public final class Paintedline {
             }
             sheet.append(picture.beginAt(i));
             sheet.append('=');
-            sheet.append(picture.shadeAt(i));
+            // One sign, put as such: an int that is put may make a text of its own each time.
+            sheet.append((char) ('0' + picture.shadeAt(i)));
         }
     }
 

@@ -986,6 +986,28 @@ final class EdgeAskTest {
         x.undo(1);
         due("digest", x.digest(), 7602656527332665622L);
         due("digest once more", x.digest(), 7602656527332665622L);
+
+        about("52: in this order");
+        Paintedline y = new Paintedline();
+        y.paint(0, LEAST, LEAST, 1);
+        y.paint(0, LEAST + 2, LEAST + 3, 1);
+        y.paint(0, 0, 0, 2);
+        y.paint(0, GREATEST, GREATEST, 3);
+        y.mirror(0);
+        y.undo(0);
+        y.frame(0, LEAST + 1, 0);
+        y.paint(1, LEAST, LEAST, 1);
+        y.paint(1, 0, 4, 2);
+        y.shift(1, 1);
+        y.dye(1, 0, 5);
+        y.lay(1, 0);
+        y.fill(2, 0, 5);
+        y.meet(2, 1);
+        y.frame(2, 6, 6);
+        y.blot(0, 0, 0);
+        y.blot(1, 0, 0);
+        y.blot(2, 0, 0);
+        due("digest of three lines", y.digest(), -8031936136839475352L);
     }
 
     private EdgeAskTest() {

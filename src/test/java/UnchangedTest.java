@@ -21,7 +21,11 @@ final class UnchangedTest {
     }
 
     /** One value, or two that belong together: right ones, wrong ones, and what the wrong ones throw. */
-    private record Slot(Class<?> thrown, int[] right, int[]... wrong) {
+    private record Slot(Class<?> thrown, int[][] right, int[][] wrong) {
+    }
+
+    /** The values of one call, and the exception that they throw, or null. */
+    private record Mix(int[] values, Class<?> thrown) {
     }
 
     /** The rows of the lines 0 and 1 hold the ACTS 1 to 3, their TAKEN 5 and 4; each has 5 RANGES. */
@@ -136,34 +140,42 @@ final class UnchangedTest {
 
     // ---- what the values of a call may be
 
+    private static int[][] ones(int... values) {
+        int[][] all = new int[values.length][];
+        for (int i = 0; i < values.length; i++) {
+            all[i] = new int[] {values[i]};
+        }
+        return all;
+    }
+
     private static Slot line() {
-        return new Slot(INDEX, new int[] {0}, new int[][] {{-1}, {3}, {LEAST}, {GREATEST}});
+        return new Slot(INDEX, ones(0), ones(-1, 3, LEAST, GREATEST));
     }
 
     private static Slot point() {
-        return new Slot(VALUE, new int[] {3});
+        return new Slot(VALUE, ones(3, LEAST, GREATEST), ones());
     }
 
     private static Slot order() {
-        return new Slot(VALUE, new int[] {1, 4}, new int[][] {{1, 0}, {GREATEST, LEAST}, {LEAST + 1, LEAST},
-            {GREATEST, GREATEST - 1}, {0, -1}});
+        return new Slot(VALUE, new int[][] {{4, 4}, {LEAST, GREATEST}},
+                new int[][] {{1, 0}, {GREATEST, LEAST}, {LEAST + 1, LEAST}, {GREATEST, GREATEST - 1}, {0, -1}});
     }
 
     private static Slot within(int least, int most) {
-        return new Slot(VALUE, new int[] {most}, new int[][] {{least - 1}, {most + 1}, {LEAST}, {GREATEST}});
+        return new Slot(VALUE, ones(least, most), ones(least - 1, most + 1, LEAST, GREATEST));
     }
 
     private static Slot atLeast(int least) {
-        return new Slot(VALUE, new int[] {least}, new int[][] {{least - 1}, {-1}, {LEAST}});
+        return new Slot(VALUE, ones(least, GREATEST), ones(least - 1, -1, LEAST));
     }
 
     private static Slot place(int size) {
-        return new Slot(INDEX, new int[] {size - 1}, new int[][] {{-1}, {size}, {LEAST}, {GREATEST}});
+        return new Slot(INDEX, ones(0, size - 1), ones(-1, size, LEAST, GREATEST));
     }
 
-    /** NUMBERS of ACTS: 0, of one in TAKEN, one that was never, and others that none can have. */
+    /** NUMBERS of ACTS: 0, of those in TAKEN, one that was never, and others that none can have. */
     private static Slot number() {
-        return new Slot(VALUE, new int[] {2}, new int[][] {{0}, {4}, {5}, {6}, {-1}, {LEAST}, {GREATEST}});
+        return new Slot(VALUE, ones(1, 3), ones(0, 4, 5, 6, -1, LEAST, GREATEST));
     }
 
     // ---- calls that throw
@@ -223,6 +235,7 @@ final class UnchangedTest {
         throwing("eitherOrder", (x, v) -> x.eitherOrder(v[0], v[1], v[2], v[3], v[4]), line(), order(), order());
     }
 
+    /** On a line with room, on full ones and on one that was told nothing. */
     private static void throwing(String name, Call call, Slot... slots) {
         throwingIf(UnchangedTest::busy, name, call, slots);
         throwingIf(UnchangedTest::fullFor2, name + " on a full line", call, slots);
@@ -230,32 +243,38 @@ final class UnchangedTest {
         throwingIf(Paintedline::new, name + " on a new object", call, slots);
     }
 
-    /** Each mixture of right and wrong values, but for the one that is right throughout. */
+    /** Each mixture of right and wrong values; the right ones alone throw nothing if the line is busy. */
     private static void throwingIf(Supplier<Paintedline> made, String name, Call call, Slot... slots) {
-        CHECK.about("wrong values");
+        CHECK.about("the values of a call");
         String was = Whole.of(made.get());
-        List<int[]> rows = new ArrayList<>();
-        List<Class<?>> thrown = new ArrayList<>();
-        mix(slots, 0, new int[0], null, rows, thrown);
-        for (int i = 0; i < rows.size(); i++) {
-            refusedOne(made, name, call, rows.get(i), thrown.get(i), was);
+        boolean full = !Whole.of(busy()).equals(was);
+        List<Mix> mixes = new ArrayList<>();
+        mix(slots, 0, new Mix(new int[0], null), mixes);
+        for (Mix one : mixes) {
+            if (one.thrown() != null) {
+                refusedOne(made, name, call, one.values(), one.thrown(), was);
+            } else if (!full) {
+                Paintedline x = made.get();
+                String told = name + " " + java.util.Arrays.toString(one.values());
+                CHECK.due(told + " throws", Check.nameOfThrown(() -> call.on(x, one.values())), "nothing");
+                CHECK.yes("isSound() behind " + told, x.isSound());
+            }
         }
     }
 
-    private static void mix(Slot[] slots, int next, int[] row, Class<?> due, List<int[]> rows, List<Class<?>> thrown) {
+    private static void mix(Slot[] slots, int next, Mix ahead, List<Mix> mixes) {
         if (next == slots.length) {
-            if (due != null) {
-                rows.add(row);
-                thrown.add(due);
-            }
+            mixes.add(ahead);
             return;
         }
         Slot slot = slots[next];
-        mix(slots, next + 1, joined(row, slot.right()), due, rows, thrown);
+        for (int[] right : slot.right()) {
+            mix(slots, next + 1, new Mix(joined(ahead.values(), right), ahead.thrown()), mixes);
+        }
+        // The document names IndexOutOfBoundsException ahead of IllegalArgumentException everywhere.
+        Class<?> first = ahead.thrown() == INDEX ? INDEX : slot.thrown();
         for (int[] wrong : slot.wrong()) {
-            // The document names IndexOutOfBoundsException ahead of IllegalArgumentException everywhere.
-            Class<?> first = due == INDEX || slot.thrown() == INDEX ? INDEX : VALUE;
-            mix(slots, next + 1, joined(row, wrong), first, rows, thrown);
+            mix(slots, next + 1, new Mix(joined(ahead.values(), wrong), first), mixes);
         }
     }
 
