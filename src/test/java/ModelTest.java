@@ -18,12 +18,15 @@ final class ModelTest {
     private final Model model = new Model();
     private final List<String> calls = new ArrayList<>();
     private final int busy;
+    private final int spread;
     private boolean wrong = false;
 
     private ModelTest(int seed) {
         random = new Random(seed);
         // Some runs go on one line for the most part, so that its row is long.
         busy = seed % 4;
+        // Far apart, PAINTS seldom hide one another, so that there are many RANGES.
+        spread = seed % 3 == 0 ? 4000 : 30;
     }
 
     public static void main(String[] args) {
@@ -91,7 +94,7 @@ final class ModelTest {
         if (sort < 3) {
             return EDGES[random.nextInt(EDGES.length)];
         }
-        return sort == 3 ? random.nextInt() : random.nextInt(61) - 30;
+        return sort == 3 ? random.nextInt() : random.nextInt(2 * spread + 1) - spread;
     }
 
     private int by() {
